@@ -652,7 +652,7 @@ public final class ToolrestMill {
         /** The number along an axis behind a step: what is added is rounded toward 0. */
         int behindStep(int leg, int axis, int step, int steps) {
             int index = leg * AXES + axis;
-            if (steps == 0 || !isWithin(index, 0, froms.length - 1)) {
+            if (steps == 0 || index < 0 || index >= froms.length) {
                 return 0;
             }
             return froms[index] + differences[index] * step / steps;
@@ -760,6 +760,7 @@ public final class ToolrestMill {
             char alarm = areTermsTold() ? findToolAlarm() : 'n';
             if (alarm == NO_ALARM) {
                 planPath();
+                aimCutter();
                 alarm = findCellAlarm();
             }
             if (alarm == NO_ALARM) {
@@ -823,7 +824,7 @@ public final class ToolrestMill {
             if (pathMeets(house.fixtures) || kind == 'g' && pathMeets(stockCells)) {
                 return 'c';
             }
-            return kind == 'x' && meetsStockAtLevel(place[2]) ? 'x' : NO_ALARM;
+            return kind == 'x' && meetsStockAtPlace() ? 'x' : NO_ALARM;
         }
 
         private boolean isCut() {
@@ -905,7 +906,6 @@ public final class ToolrestMill {
             if (slot == NONE) {
                 return false;
             }
-            aimCutter();
             for (int leg = 0; leg < path.legs; leg++) {
                 int steps = path.stepsOf(leg);
                 for (int step = 1; step <= steps; step++) {
@@ -929,9 +929,8 @@ public final class ToolrestMill {
                     path.behindStep(leg, 2, step, steps));
         }
 
-        private boolean meetsStockAtLevel(int level) {
-            aimCutter();
-            reach.moveTo(place[0], place[1], level);
+        private boolean meetsStockAtPlace() {
+            reach.moveTo(place[0], place[1], place[2]);
             return stockCells.meets(reach);
         }
 
@@ -974,7 +973,6 @@ public final class ToolrestMill {
 
         private void carryOutMoves() {
             float stepTime = 1f / (float) (kind == 'g' ? RAPID_FEED : feed);
-            aimCutter();
             for (int leg = 0; leg < path.legs; leg++) {
                 int steps = path.stepsOf(leg);
                 if (isCut()) {
@@ -1005,7 +1003,8 @@ public final class ToolrestMill {
 
         private int leastFreeLevel() {
             for (int level = place[2]; level > 0; level--) {
-                if (meetsStockAtLevel(level - 1)) {
+                reach.moveTo(place[0], place[1], level - 1);
+                if (stockCells.meets(reach)) {
                     return level;
                 }
             }

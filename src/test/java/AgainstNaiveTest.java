@@ -14,6 +14,7 @@ public final class AgainstNaiveTest {
     private final Check check = new Check();
     private final StringBuilder story = new StringBuilder();
     private long seed;
+    private long compared;
     private ToolrestMill mill;
     private NaiveMill naive;
     private final int[] alarms = new int[256];
@@ -27,6 +28,7 @@ public final class AgainstNaiveTest {
             System.out.println("alarm " + alarm + ": " + test.alarms[alarm]);
             test.check.due("alarm " + alarm + " came", test.alarms[alarm] > 20, true);
         }
+        System.out.println(test.compared + " answers were compared");
         test.check.end();
     }
 
@@ -211,6 +213,7 @@ public final class AgainstNaiveTest {
     }
 
     private void both(String call, Check.Call ours, Check.Call theirs) {
+        compared++;
         Object got = answerOf(ours);
         Object want = answerOf(theirs);
         if (call.endsWith(")")) {

@@ -69,11 +69,12 @@ public final class FiguresTest {
     private static void height() {
         ToolrestMill mill = new ToolrestMill();
         mill.putCutter(0, 0, 'e', 0, 999);
-        Check.add(mill, "t 0 0", "s 1", "d 9 9", "l 1 0 9", "d 5 5", "l 2 0 9", "d 4 4");
+        Check.add(mill, "t 0 0", "s 1", "d 9 9", "l 1 0 9", "d 5 5", "l 2 0 9", "d 4 4", "l 3 0 9", "d 8 8");
         mill.run(100);
         check.due("through", mill.height(0, 0), 0);
         check.due("down to 4", mill.height(1, 0), 4);
         check.due("down to 5", mill.height(2, 0), 5);
+        check.due("down to 1", mill.height(3, 0), 1);
         check.due("not cut", mill.height(15, 11), 6);
         int[][] outside = {{16, 0}, {-1, 0}, {0, 12}, {0, -1}, {Integer.MAX_VALUE, 0}, {0, Integer.MIN_VALUE}};
         for (int[] column : outside) {

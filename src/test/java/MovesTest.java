@@ -6,6 +6,7 @@ public final class MovesTest {
         targets();
         stepsAreRounded();
         shapes();
+        atTheEdges();
         drilling();
         pocket();
         probing();
@@ -101,7 +102,30 @@ public final class MovesTest {
         corner.putCutter(2, 0, shape, radius, 999);
         ran(corner, "t 2 0,s 1,g 15 11 9,l 15 11 0");
         check.due("no cell outside is counted", corner.used(2, 0), 1152 - corner.stock());
+        check.due("the lowest cells", corner.has(15, 11, 0), false);
         check.due("the far corner is stock", corner.has(0, 0, 5) && corner.has(0, 11, 5) && corner.has(15, 0, 5), true);
+    }
+
+    private static void atTheEdges() {
+        edge(0, 0, 3);
+        edge(15, 0, 3);
+        edge(0, 11, 3);
+        edge(15, 11, 3);
+        edge(7, 0, 4);
+        edge(7, 11, 4);
+        edge(0, 5, 4);
+        edge(15, 5, 4);
+        edge(1, 1, 5);
+        edge(14, 10, 5);
+    }
+
+    private static void edge(int x, int y, int want) {
+        ToolrestMill mill = ran(Check.withEnds(), "t 0 1,s 1,g " + x + " " + y + " 6,l " + x + " " + y + " 5");
+        check.due("taken at " + x + " " + y, mill.used(0, 1) + " " + mill.stock(), want + " " + (1152 - want));
+        for (int i = 0; i < 192; i++) {
+            int distance = (i % 16 - x) * (i % 16 - x) + (i / 16 - y) * (i / 16 - y);
+            check.due("at " + i + " from " + x + " " + y, mill.has(i % 16, i / 16, 5), distance > 1);
+        }
     }
 
     private static int takenIn(ToolrestMill mill, int z) {
@@ -118,6 +142,8 @@ public final class MovesTest {
         check.due("height", mill.height(4, 4), 2);
         check.due("taken", mill.stock(), 1152 - 4);
         check.due("cuts by 2, 4 and 5", mill.time(), sum(4f * (1f / 100f), 0.1f, 2, 4, 5));
+        ToolrestMill aside = ran(Check.withEnds(), "t 0 0,s 1,g 5 3 9,d 9 4");
+        check.due("straight down", aside.stock() + " " + aside.height(5, 3) + " " + place(aside), "1146 0 5 3 9");
         check.due("cuts by 2 and 4", drilled("d 4 2"), sum(0f, 0.1f, 2, 4));
         check.due("a cut by 3", drilled("d 3 9"), sum(0f, 0.1f, 3));
         check.due("a cut by 3, none as long", drilled("d 3 3"), sum(0f, 0.1f, 3));
@@ -172,6 +198,10 @@ public final class MovesTest {
         check.due("in the hole", mill.variable(1), 2);
         check.due("a wider one on the stock", mill.variable(2), 6);
         check.due("a wider one in the hole", mill.variable(3), 4);
+        ToolrestMill aside = ran(Check.withEnds(), "t 0 0,s 1,g 9 2 9,d 7 7,x 0,g 9 3 9,x 1");
+        check.due("aside", aside.variable(0) + " " + aside.variable(1), "2 6");
+        ToolrestMill last = ran(Check.withEnds(), "t 0 0,s 1,d 8 8,x 0");
+        check.due("on the lowest layer", last.variable(0), 1);
         ToolrestMill through = ran(Check.withEnds(), "t 0 0,s 1,d 9 9,x 0,l 0 0 0,x 1");
         check.due("through", through.variable(0), 0);
         check.due("at 0 already", through.variable(1), 0);
@@ -304,6 +334,8 @@ public final class MovesTest {
         alarm('-', 1, "g 0 0 5");
         alarm('-', 5, "t 0 0,s 1,l 5 5 0,g 5 5 6,g 5 5 0");
         alarm('-', 4, "t 0 1,s 1,l 5 5 5,g 5 5 5");
+        alarm('c', 6, "t 0 0,s 1,l 5 5 4,g 5 5 9,s 0,t 0 1,g 5 5 5");
+        alarm('-', 7, "t 0 1,s 1,l 5 5 4,g 5 5 9,s 0,t 0 0,g 5 5 4");
         alarm('c', 3, "t 0 1,s 1,l 5 5 5,g 5 6 5");
         ToolrestMill mill = Check.withEnds();
         mill.setFixture(4, 2, 3, true);
@@ -326,6 +358,8 @@ public final class MovesTest {
     private static void alarmX() {
         alarm('x', 5, "t 0 0,s 1,l 5 5 4,s 0,t 0 1,x 0");
         alarm('-', 6, "t 0 1,s 1,l 5 5 4,s 0,t 0 0,x 0");
+        alarm('x', 5, "t 0 0,s 1,l 9 2 4,s 0,t 0 1,x 0");
+        alarm('-', 7, "t 0 1,s 1,l 9 2 4,s 0,t 0 0,x 0,x 7");
         alarm('s', 1, "g 0 0 3,x 0");
     }
 

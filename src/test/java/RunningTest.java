@@ -221,6 +221,15 @@ public final class RunningTest {
         for (int[] slot : outside) {
             check.dueThrow("used", IndexOutOfBoundsException.class, () -> mill.used(slot[0], slot[1]));
         }
+        for (int slot = 0; slot < 12; slot++) {
+            int rack = slot / 4;
+            int place = slot % 4;
+            ToolrestMill any = new ToolrestMill();
+            any.putCutter(rack, place, "ebe".charAt(rack), 2, 999);
+            Check.add(any, "t " + rack + " " + place, "s 1", "g 8 6 6", "l 8 6 5");
+            any.run(100);
+            check.due("use in rack " + rack + " and place " + place, any.used(rack, place), rack == 1 ? 1 : 13);
+        }
         check.dueThrow("used of an empty place", java.util.NoSuchElementException.class, () -> mill.used(2, 3));
         check.dueThrow("used of an empty place", java.util.NoSuchElementException.class, () -> mill.used(0, 2));
     }
