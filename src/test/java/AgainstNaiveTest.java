@@ -1,7 +1,9 @@
 /** Runs of calls that come by a fixed count, put to the mill and to the naive one: their answers are the same. */
 public final class AgainstNaiveTest {
-    private static final int RUNS = 1500;
-    private static final int CALLS = 500;
+    private static final int RUNS = 3000;
+    /** The document tells what an object answers for 512 calls. */
+    private static final int CALLS = 512;
+    private static final int CALLS_AT_THE_END = 70;
     private static final String KINDS = "gldptsfmovxrieq";
     private static final String[] SNIPPETS = {
         "s 0,t 0 0,s 1", "s 0,t 1 0,s 1", "s 0,t 2 0,s 1", "s 0,t 2 1,s 1", "r 3,e", "r 2,l 102 101 5,v 2 102 1,e",
@@ -15,6 +17,7 @@ public final class AgainstNaiveTest {
     private final StringBuilder story = new StringBuilder();
     private long seed;
     private long compared;
+    private int calls;
     private ToolrestMill mill;
     private NaiveMill naive;
     private final int[] alarms = new int[256];
@@ -45,15 +48,23 @@ public final class AgainstNaiveTest {
         seed = run * 7919L + 17;
         mill = new ToolrestMill();
         naive = new NaiveMill();
+        calls = 0;
         story.setLength(0);
         story.append("run ").append(run).append(':');
         prepare();
-        for (int call = 0; call < CALLS; call++) {
+        while (calls < CALLS - CALLS_AT_THE_END) {
             oneCall();
         }
-        int start = pick(97);
-        both("has all", () -> cells(), () -> naiveCells(0, 1));
-        both("hasAnew some", () -> cellsAnew(start), () -> naiveCells(start, 97));
+        for (int i = pick(97); i < 1152; i += 97) {
+            int x = i % 16;
+            int y = i / 16 % 12;
+            int z = i / 192;
+            both("has", () -> mill.has(x, y, z), () -> naive.has(x, y, z));
+            both("hasAnew", () -> mill.hasAnew(x, y, z), () -> naive.has(x, y, z));
+        }
+        while (calls < CALLS - 1) {
+            both("height", () -> mill.height(calls % 16, calls % 12), () -> naive.height(calls % 16, calls % 12));
+        }
         both("isSound()", () -> mill.isSound(), () -> true);
     }
 
@@ -71,7 +82,7 @@ public final class AgainstNaiveTest {
         }
         int snippets = 2 + pick(9);
         for (int i = 0; i < snippets; i++) {
-            for (String block : SNIPPETS[i == 0 ? pick(4) : pick(SNIPPETS.length)].split(",")) {
+            for (String block : SNIPPETS[i == 0 ? pick(5) : pick(SNIPPETS.length)].split(",")) {
                 String[] parts = (block + " 0 0 0").split(" ");
                 addBlock(parts[0].charAt(0), Integer.parseInt(parts[1]), Integer.parseInt(parts[2]), Integer.parseInt(parts[3]));
             }
@@ -188,32 +199,9 @@ public final class AgainstNaiveTest {
                 () -> mill.addBlock(kind, a, b, c), () -> naive.addBlock(kind, a, b, c));
     }
 
-    private String cells() {
-        StringBuilder text = new StringBuilder();
-        for (int i = 0; i < 1152; i++) {
-            text.append(mill.has(i % 16, i / 16 % 12, i / 192) ? 1 : 0);
-        }
-        return text.toString();
-    }
-
-    private String cellsAnew(int start) {
-        StringBuilder text = new StringBuilder();
-        for (int i = start; i < 1152; i += 97) {
-            text.append(mill.hasAnew(i % 16, i / 16 % 12, i / 192) ? 1 : 0);
-        }
-        return text.toString();
-    }
-
-    private String naiveCells(int start, int stride) {
-        StringBuilder text = new StringBuilder();
-        for (int i = start; i < 1152; i += stride) {
-            text.append(naive.has(i % 16, i / 16 % 12, i / 192) ? 1 : 0);
-        }
-        return text.toString();
-    }
-
     private void both(String call, Check.Call ours, Check.Call theirs) {
         compared++;
+        calls++;
         Object got = answerOf(ours);
         Object want = answerOf(theirs);
         if (call.endsWith(")")) {

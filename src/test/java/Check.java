@@ -1,4 +1,6 @@
+import java.util.HashSet;
 import java.util.Objects;
+import java.util.Set;
 
 /** Counts the answers that are not the ones that are due, and tells programs in short. */
 final class Check {
@@ -7,20 +9,53 @@ final class Check {
         Object answer();
     }
 
+    /** A call of a new mill with a number that may be out of range. */
+    interface CallWith {
+        Object answer(int number);
+    }
+
     private int asked;
     private int wrong;
+    private int sentences;
+    private String sentence = "";
+
+    /** The document's sentence that the answers behind it are asked for. */
+    void sentence(String words) {
+        sentences++;
+        sentence = words + ": ";
+    }
 
     void due(String what, Object got, Object want) {
         asked++;
         if (!Objects.equals(got, want)) {
             wrong++;
-            System.out.println(what + " answered " + got + ", due is " + want);
+            System.out.println(sentence + what + " answered " + got + ", due is " + want);
         }
     }
 
     /** Exactly this exception, no class below it. */
     void dueThrow(String what, Class<? extends RuntimeException> want, Call call) {
         due(what + " throws", thrownBy(call), want);
+    }
+
+    /** The numbers from least to most are taken, and no others; each is put to a call of its own. */
+    void dueRange(String what, int least, int most, Class<? extends RuntimeException> want, CallWith call) {
+        Set<Integer> numbers = new HashSet<>();
+        for (int number = least - 60; number <= most + 60; number++) {
+            numbers.add(number);
+        }
+        for (int shift = 8; shift < 32; shift++) {
+            for (int number : new int[] {least, least + 1, most}) {
+                numbers.add(number + (1 << shift));
+                numbers.add(number - (1 << shift));
+            }
+        }
+        numbers.add(Integer.MIN_VALUE);
+        numbers.add(Integer.MAX_VALUE);
+        for (int number : numbers) {
+            boolean isTaken = number >= least && number <= most;
+            due(what + " " + number + " throws", thrownBy(() -> call.answer(number)), isTaken ? null : want);
+        }
     }
 
     static Class<?> thrownBy(Call call) {
@@ -33,7 +68,8 @@ final class Check {
     }
 
     void end() {
-        System.out.println(asked + " answers asked, " + wrong + " not as due");
+        String told = sentences == 0 ? "" : sentences + " sentences, ";
+        System.out.println(told + asked + " answers asked, " + wrong + " not as due");
         if (wrong != 0) {
             System.exit(1);
         }
@@ -62,6 +98,26 @@ final class Check {
         mill.putCutter(0, 0, 'e', 0, 999);
         mill.putCutter(0, 1, 'e', 1, 999);
         return add(mill, blocks);
+    }
+
+    /** A mill with an end, a ball and a point of the radius 2 at the places 0 of the racks, and a long life. */
+    static ToolrestMill withShapes(String... blocks) {
+        ToolrestMill mill = new ToolrestMill();
+        mill.putCutter(0, 0, 'e', 2, 999);
+        mill.putCutter(1, 0, 'b', 2, 999);
+        mill.putCutter(2, 0, 'v', 2, 999);
+        return add(mill, blocks);
+    }
+
+    /** Adds blocks such as "t 0 0,s 1" and runs. */
+    static ToolrestMill ran(ToolrestMill mill, String blocks) {
+        add(mill, blocks.split(","));
+        mill.run(100);
+        return mill;
+    }
+
+    static String place(ToolrestMill mill) {
+        return mill.at(0) + " " + mill.at(1) + " " + mill.at(2);
     }
 
     /** All that can be asked without an argument out of range, in one text. */

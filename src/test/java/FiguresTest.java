@@ -40,11 +40,14 @@ public final class FiguresTest {
 
     /** Promise 19. */
     private static void hasAnew() {
-        ToolrestMill mill = Check.withEnds("t 0 1", "s 1", "q", "r 3", "v 0 100 2", "l 100 4 4", "q", "e", "t 0 0");
-        for (int call = 0; call < 12; call++) {
-            mill.run(3);
+        ToolrestMill mill = new ToolrestMill();
+        for (int part = 0; part < 36; part++) {
+            mill = Check.withEnds("t 0 1", "s 1", "q", "r 3", "v 0 100 2", "l 100 4 4", "q", "e", "t 0 0");
+            for (int call = 0; call <= part / 3; call++) {
+                mill.run(3);
+            }
             String before = Check.state(mill);
-            for (int i = 0; i < 1152; i += 5) {
+            for (int i = part % 3; i < 1152; i += 8) {
                 check.due("anew", mill.hasAnew(i % 16, i / 16 % 12, i / 192), mill.has(i % 16, i / 16 % 12, i / 192));
             }
             check.due("asking changes nothing", Check.state(mill), before);
@@ -175,8 +178,8 @@ public final class FiguresTest {
         mill.setFixture(12, 9, 0, true);
         mill.setFixture(3, 3, 3, true);
         check.due("begun", mill.isSound(), true);
-        for (int i = 0; i < 30; i++) {
-            mill.run(2);
+        for (int i = 0; i < 5; i++) {
+            mill.run(13);
             String before = Check.state(mill);
             check.due("sound", mill.isSound(), true);
             check.due("asking changes nothing", Check.state(mill), before);

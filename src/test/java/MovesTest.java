@@ -89,10 +89,11 @@ public final class MovesTest {
 
     private static void shape(char shape, int radius, int z, int... layers) {
         ToolrestMill mill = new ToolrestMill();
-        mill.putCutter(2, 0, shape, radius, 999);
-        ran(mill, "t 2 0,s 1,g 8 6 9,l 8 6 " + z);
         int sum = 0;
         for (int i = 0; i < 6; i++) {
+            mill = new ToolrestMill();
+            mill.putCutter(2, 0, shape, radius, 999);
+            ran(mill, "t 2 0,s 1,g 8 6 9,l 8 6 " + z);
             int want = i < z ? 0 : layers[i - z];
             check.due(shape + " " + radius + " in layer " + i, takenIn(mill, i), want);
             sum += want;

@@ -27,12 +27,11 @@ public final class SetupTest {
         ToolrestMill mill = new ToolrestMill();
         check.due("state of a new mill", Check.state(mill), "true - true 0 0 -1 v0 v0 v0 v0 v0 v0 v0 v0 @0 @0 @9"
                 + " uNoSuchElementException".repeat(12) + " 1152 510271680 0.0 0 0.0 true ArithmeticException");
-        for (int x = 0; x < 16; x++) {
-            for (int y = 0; y < 12; y++) {
-                check.due("height", mill.height(x, y), 6);
-                for (int z = 0; z < 6; z++) {
-                    check.due("has", mill.has(x, y, z), true);
-                }
+        for (int z = 0; z < 6; z++) {
+            ToolrestMill layer = new ToolrestMill();
+            for (int column = 0; column < 192; column++) {
+                check.due("height", layer.height(column % 16, column / 16), 6);
+                check.due("has", layer.has(column % 16, column / 16, z), true);
             }
         }
         check.dueThrow("dropBlock", STATE, mill::dropBlock);
