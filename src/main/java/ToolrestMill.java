@@ -457,8 +457,12 @@ public final class ToolrestMill {
             return isWithin(block, 0, size - 1);
         }
 
+        int partnerOf(int block) {
+            return isBlock(block) ? partners[block] : NONE;
+        }
+
         private boolean isOpening(int block) {
-            return kinds[block] == 'r' || kinds[block] == 'i';
+            return isBlock(block) && (kinds[block] == 'r' || kinds[block] == 'i');
         }
     }
 
@@ -1014,14 +1018,16 @@ public final class ToolrestMill {
         private int followingOpening() {
             boolean isEntered = kind == 'r' ? a > 0 : a > b;
             if (!isEntered) {
-                return house.program.partners[nextBlock] + 1;
+                return house.program.partnerOf(nextBlock) + 1;
             }
-            timesLeft[nextBlock] = a;
+            if (house.program.isBlock(nextBlock)) {
+                timesLeft[nextBlock] = a;
+            }
             return nextBlock + 1;
         }
 
         private int followingClosing() {
-            int opening = house.program.partners[nextBlock];
+            int opening = house.program.partnerOf(nextBlock);
             if (!house.program.isBlock(opening) || house.program.kinds[opening] != 'r') {
                 return nextBlock + 1;
             }

@@ -9,6 +9,7 @@ public final class MoveEdgesTest {
         balls();
         points();
         reachAtTheBorders();
+        reachOfRows();
         wear();
         numbersOfSteps();
         roundedTowardZero();
@@ -29,6 +30,7 @@ public final class MoveEdgesTest {
         feeds();
         placesMode();
         offsets();
+        settingsAreKept();
         probes();
         probesBelow();
         timesOfSteps();
@@ -161,6 +163,38 @@ public final class MoveEdgesTest {
                 check.due("use at " + x + " " + y, mill.used(2, 0) + " " + mill.stock(), count + " " + (1152 - count));
             }
         }
+    }
+
+    /** Along a row at one height, so that no higher place has taken what is reached there. */
+    private static void reachOfRows() {
+        check.sentence("At a place X, Y, Z a cutter with the radius r reaches cells i, j, k (along rows)");
+        for (int turn = 0; turn < 12; turn++) {
+            char shape = "ebv".charAt(turn % 3);
+            int radius = turn / 3;
+            for (int z = 0; z < 6; z++) {
+                for (int k = 0; k < 6; k++) {
+                    ToolrestMill mill = Check.ran(with(shape, radius), "g 0 5 9,l 0 5 " + z + ",l 12 5 " + z);
+                    for (int column = 48; column < 160; column++) {
+                        int i = column % 16;
+                        int j = column / 16;
+                        boolean isReached = false;
+                        for (int x = 0; x <= 12; x++) {
+                            isReached |= isReached(shape, radius, (i - x) * (i - x) + (j - 5) * (j - 5), k - z);
+                        }
+                        check.due(shape + " " + radius + " along " + z + ", cell " + i + " " + j + " " + k,
+                                mill.has(i, j, k), !isReached);
+                    }
+                }
+            }
+        }
+    }
+
+    /** The document's words, for the square q and the height h. */
+    private static boolean isReached(char shape, int r, int q, int h) {
+        int lesser = Math.min(h, r);
+        int most = shape == 'v' ? lesser * lesser : r * r;
+        int plus = shape != 'b' || h > r ? 0 : (r - h) * (r - h);
+        return h >= 0 && q + plus <= most;
     }
 
     private static void wear() {
@@ -588,6 +622,50 @@ public final class MoveEdgesTest {
             String place = 5 + number + 1 + " " + (5 + 2 * number) + " " + (5 - number) + " -";
             check.due("o " + number, end(mill), isOffset ? place : "0 0 9 n");
         }
+    }
+
+    /** Behind a block, with the offset 1 and the feed 20, a cut goes to the x that is due, in the time that is due. */
+    private static void kept(String block, int x, int feed) {
+        ToolrestMill mill = Check.withEnds("v 0 41 0", "v 1 42 0", "v 2 43 0", "v 3 44 0", "t 0 1", "s 1", "f 20", "o 1");
+        mill.setOffset(0, 9, 0, 0);
+        mill.setOffset(1, 1, 0, 0);
+        mill.setOffset(2, 2, 0, 0);
+        Check.ran(mill, block);
+        mill.run(100);
+        check.due(block, end(mill), "0 0 9 -");
+        check.due(block + ", time", mill.timeBits(), 0);
+        check.due(block + ", variables", mill.variable(0) + " " + mill.variable(1) + " " + mill.variable(2) + " "
+                + mill.variable(3) + " " + mill.variable(4), "41 42 43 44 0");
+        Check.ran(mill, "l 3 0 9");
+        mill.run(100);
+        check.due(block + ", a cut behind it", end(mill) + " " + mill.cutter(), x + " 0 9 - 1");
+        check.due(block + ", the feed of it", mill.time(), (float) x * (1f / (float) feed));
+    }
+
+    private static void settingsAreKept() {
+        check.sentence("'s' sets the spindle, 'f' the feed, 'm' the places, 'o' the offset (and nothing else)");
+        kept("s 1 5 6", 4, 20);
+        kept("s 0 5 6,s 1", 4, 20);
+        kept("f 9 5 6", 4, 9);
+        kept("f 1 5 6", 4, 1);
+        kept("m 0 5 6", 4, 20);
+        kept("m 1,m 0", 4, 20);
+        kept("o 2 5 6", 5, 20);
+        kept("o 1 5 6", 4, 20);
+        kept("o 0 5 6,o 3", 3, 20);
+        kept("m 1,o 2,m 0", 5, 20);
+        check.sentence("other blocks set none of these");
+        kept("v 7 5 6", 4, 20);
+        kept("x 7 5 6", 4, 20);
+        kept("r 1 5 6,e 5 5 5", 4, 20);
+        kept("r 0 5 6,e", 4, 20);
+        kept("i 3 2 1,e 2 2 2", 4, 20);
+        kept("q 3 3 3", 4, 20);
+        kept("g -1 0 9", 4, 20);
+        kept("l -1 0 9", 4, 20);
+        kept("d 0 1 9", 4, 20);
+        kept("p 0 0 0", 4, 20);
+        kept("s 0,t 0 1 9,s 1", 4, 20);
     }
 
     private static void probe(String what, String blocks, int want) {

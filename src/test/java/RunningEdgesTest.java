@@ -253,6 +253,14 @@ public final class RunningEdgesTest {
             ends("v 1 " + times + " 0,r 101,v 0 100 1,e,v 2 1 0", 3 + 2 * times, 5, times);
             ends("r " + times + ",e", 1 + times, 2, 0);
         }
+        check.sentence("'r' carries its part out a times (whatever b and c are)");
+        ends("r 2 9 9,v 0 100 1,e", 5, 3, 2);
+        ends("r 2 2 -50,v 0 100 1,e 9 9 9", 5, 3, 2);
+        ends("r 9 50 50,v 0 100 1,e", 19, 3, 9);
+        ends("r 0 -1 -1,v 0 100 1,e", 1, 3, 0);
+        ends("r 0 9 9,v 0 100 1,e 9 9 9", 1, 3, 0);
+        ends("i 2 1 0,v 0 100 1,e 9 9 9", 3, 3, 1);
+        ends("i 2 1 50,v 0 100 1,e -1 0 0", 3, 3, 1);
         check.sentence("otherwise the run goes on behind the 'e' of the part ('r' with 0)");
         ends("r 0,v 0 100 1,e", 1, 3, 0);
         ends("r 0,e", 1, 2, 0);
